@@ -246,6 +246,8 @@ public final class TextureBankPromises {
             due("soft, g is 0", lookUp(bank, wrap, 0, 16384 + 127, 16384), 0x000000);
             due("soft, g is 1", lookUp(bank, wrap, 0, 16384 + 128, 16384), 0x000000);
             due("soft, g is 2", lookUp(bank, wrap, 0, 16384 + 256, 16384), 0x010000);
+            due("soft, g is 255", lookUp(bank, wrap, 0, 49151, 16384), 0xFE0000);
+            due("soft, k is 255", lookUp(bank, wrap, 0, 16384, 49151), 0x00FE00);
             // DIV(255 * 192 * 192, 65536), 255 * 192 * 64 and 255 * 64 * 64
             due("soft, three fourths", lookUp(bank, wrap, 0, 40960, 40960), 0x2F2F8F);
             due("soft in the last level", lookUp(bank, wrap, 1, 12345, -9), 0x3F3F3F);
@@ -328,6 +330,8 @@ public final class TextureBankPromises {
         due("lit as it is", lit(bank, 0x123456, 0xFFFFFF, 65536), 0x123456);
         due("lit by the tint", lit(bank, 0xFFFFFF, 0x123456, 65536), 0x123456);
         due("lit by nothing", lit(bank, 0xFFFFFF, 0xFFFFFF, 0), 0);
+        due("lit black", lit(bank, 0, 0xFFFFFF, 65536), 0);
+        due("lit by a black tint", lit(bank, 0xFFFFFF, 0, 65536), 0);
         due("lit nearly", lit(bank, 0xFFFFFF, 0xFFFFFF, 65535), 0xFEFEFE);
         // Red DIV(200 * 100, 255) = 78, DIV(78 * 40000, 65536) = 47; green 254 * 254 gives 253, 154; blue 1 * 254 gives 0.
         due("lit, each by itself", lit(bank, 0xC8FE01, 0x64FEFE, 40000), 0x2F9A00);

@@ -1,3 +1,5 @@
+import com.sun.management.ThreadMXBean;
+import java.lang.management.ManagementFactory;
 import java.lang.reflect.InvocationTargetException;
 import java.lang.reflect.Method;
 import java.util.ArrayList;
@@ -66,6 +68,49 @@ public final class TextureBankBoundaries {
 
     private static void termsNoneIsMinus1() {
         due("NONE", TextureBank.NONE, -1);
+    }
+
+    /** Counts what the machine hands out; one object a call, or one row an add, would be far above the limit. */
+    private static void termsAllMemoryIsMadeOnce() {
+        ThreadMXBean machine = (ThreadMXBean) ManagementFactory.getThreadMXBean();
+        TextureBank[] banks = new TextureBank[60];
+        for (int n = 0; n < banks.length; n++) {
+            banks[n] = new TextureBank();
+        }
+        // The first ones load what the machine itself needs.
+        for (int n = 0; n < 10; n++) {
+            useUpTo512Calls(banks[n]);
+        }
+        machine.getThreadAllocatedBytes(Thread.currentThread().getId());
+        long before = machine.getThreadAllocatedBytes(Thread.currentThread().getId());
+        for (int n = 10; n < banks.length; n++) {
+            useUpTo512Calls(banks[n]);
+        }
+        long handedOut = machine.getThreadAllocatedBytes(Thread.currentThread().getId()) - before;
+        due("some 23,000 calls ask for less than 4096 bytes, not for " + handedOut, handedOut < 4096, true);
+    }
+
+    /** Every kind of call, none of which throws: an exception is an object, too. */
+    private static void useUpTo512Calls(TextureBank bank) {
+        for (int side = 8; side > 0; side /= 2) {
+            for (int again = 0; again < 3; again++) {
+                for (int n = 0; n < side * side; n++) {
+                    bank.put(n, n, n);
+                }
+                bank.add(side, again, again & 1);
+            }
+            for (int n = 0; n < 8; n++) {
+                bank.lookUp(n % 3, 0, n * 9999, -n);
+                bank.texel(n % 3, 0, 0, 0);
+                bank.level(n % 3, 1L << 40, 1);
+                bank.lit(n, n, n);
+                bank.about(n, n);
+                bank.count(n);
+            }
+            bank.put(-1, 0, 0);
+            bank.add(3, 0, 0);
+            bank.clear();
+        }
     }
 
     // Promise 1: a new object

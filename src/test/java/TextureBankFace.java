@@ -5,7 +5,10 @@ import java.lang.reflect.Modifier;
 import java.util.Arrays;
 import java.util.TreeSet;
 
-/** The class has the document's face and no other member that can be seen from outside. */
+/**
+ * The class has the document's face and no other member that can be seen from outside; and those rules of LANGUAGE.md
+ * that can be seen in the compiled class (1, 5, 6 and 11) hold in it and in the classes inside it.
+ */
 public final class TextureBankFace {
     private static int wrong = 0;
 
@@ -37,10 +40,46 @@ public final class TextureBankFace {
             "public int TextureBank.count(int)")));
         due("final", Modifier.isFinal(face.getModifiers()), true);
         due("public", Modifier.isPublic(face.getModifiers()), true);
+        due("package", face.getPackageName(), "");
+        due("above it", face.getSuperclass(), Object.class);
+        due("interfaces", face.getInterfaces().length, 0);
+        for (Class<?> inside : face.getDeclaredClasses()) {
+            int modifiers = inside.getModifiers();
+            due(inside + " is static", Modifier.isStatic(modifiers), true);
+            due(inside + " is hidden", Modifier.isPublic(modifiers) || Modifier.isProtected(modifiers), false);
+            keepsToTheRules(inside);
+        }
+        due("not too many classes", face.getDeclaredClasses().length <= 11, true);
+        keepsToTheRules(face);
         System.out.println(wrong == 0 ? "all answers are as due" : wrong + " answers are not as due");
         if (wrong != 0) {
             System.exit(1);
         }
+    }
+
+    private static void keepsToTheRules(Class<?> one) {
+        int objectFields = 0;
+        for (Field f : one.getDeclaredFields()) {
+            boolean isStatic = Modifier.isStatic(f.getModifiers());
+            due(f + " is final if it is static", !isStatic || Modifier.isFinal(f.getModifiers()), true);
+            objectFields += isStatic ? 0 : 1;
+        }
+        due(one + " has at most twenty fields", objectFields <= 20, true);
+        for (Method m : one.getDeclaredMethods()) {
+            due(m + " has at most seven parameters", m.getParameterCount() <= 7, true);
+            due(m + " is synchronized", Modifier.isSynchronized(m.getModifiers()), false);
+            boolean isPrivate = Modifier.isPrivate(m.getModifiers());
+            due(m + " has a public one's name", isPrivate && isNameOfThePublic(m.getName()), false);
+        }
+    }
+
+    private static boolean isNameOfThePublic(String name) {
+        for (Method m : TextureBank.class.getDeclaredMethods()) {
+            if (Modifier.isPublic(m.getModifiers()) && m.getName().equals(name)) {
+                return true;
+            }
+        }
+        return false;
     }
 
     private static void addIfSeen(TreeSet<String> seen, int modifiers, String member) {

@@ -7,32 +7,32 @@ public final class TextureBankPromises {
     private static int wrong = 0;
 
     public static void main(String[] args) {
-        aNewObject();
-        put();
-        putUpToTheMost();
-        add();
-        addRefuses();
-        addUpToTheMost();
-        clear();
-        levels();
-        levelRefuses();
-        levelOfTheGreatest();
-        nearest();
-        softly();
-        lookUpRefuses();
-        texels();
-        meansAreRoundedAtEachLevel();
-        lit();
-        about();
-        count();
-        banksAreApart();
+        promise1ANewObject();
+        promise2Put();
+        promise2PutUpToTheMost();
+        promise3Add();
+        promise3AddRefuses();
+        promise3AddUpToTheMost();
+        promise4Clear();
+        promise5Level();
+        promise5LevelRefuses();
+        promise5LevelOfTheGreatest();
+        promise6LookUpNearest();
+        promise6LookUpSoftly();
+        promise6LookUpRefuses();
+        promise7Texel();
+        promise7TexelMeansAreRoundedAtEachLevel();
+        promise8Lit();
+        promise9About();
+        promise10Count();
+        promise1BanksAreApart();
         System.out.println(wrong == 0 ? "all answers are as due" : wrong + " answers are not as due");
         if (wrong != 0) {
             System.exit(1);
         }
     }
 
-    private static void aNewObject() {
+    private static void promise1ANewObject() {
         TextureBank bank = new TextureBank();
         due("new: NONE", TextureBank.NONE, -1);
         due("new: textures", bank.count(0), 0);
@@ -44,7 +44,7 @@ public final class TextureBankPromises {
         due("new: add", bank.add(1, 0, 0), -1);
     }
 
-    private static void put() {
+    private static void promise2Put() {
         TextureBank bank = new TextureBank();
         due("put the least", bank.put(0, 0, 0), 1);
         due("put the most", bank.put(255, 255, 255), 2);
@@ -66,7 +66,7 @@ public final class TextureBankPromises {
     }
 
     /** Answers behind the 512th call are free; the limit of 1024 that the document names is kept all the same. */
-    private static void putUpToTheMost() {
+    private static void promise2PutUpToTheMost() {
         TextureBank bank = new TextureBank();
         for (int i = 1; i <= 1024; i++) {
             due("put " + i, bank.put(i & 255, i >> 8, 0), i);
@@ -84,7 +84,7 @@ public final class TextureBankPromises {
         due("level of 32", level(bank, 0, 1L << 40, 1), 5);
     }
 
-    private static void add() {
+    private static void promise3Add() {
         TextureBank bank = new TextureBank();
         int number = 0;
         for (int side = 1; side <= 8; side *= 2) {
@@ -100,7 +100,7 @@ public final class TextureBankPromises {
         due("add side 16: a texel", texel(large, 0, 0, 15, 15), 0xFFFF00);
     }
 
-    private static void addRefuses() {
+    private static void promise3AddRefuses() {
         int[][] bad = {
             {0, 0, 0, 0}, {0, 1, 0, 0}, {1, 0, 0, 0}, {1, -1, 0, 0}, {4, -2, 0, 0}, {9, 3, 0, 0}, {25, 5, 0, 0},
             {36, 6, 0, 0}, {49, 7, 0, 0}, {0, 65536, 0, 0}, {0, 1 << 31, 0, 0}, {1, Integer.MAX_VALUE, 0, 0}, {16, 64, 0, 0},
@@ -117,7 +117,7 @@ public final class TextureBankPromises {
         }
     }
 
-    private static void addUpToTheMost() {
+    private static void promise3AddUpToTheMost() {
         TextureBank bank = new TextureBank();
         for (int i = 0; i < 8; i++) {
             bank.put(i, 0, 0);
@@ -133,7 +133,7 @@ public final class TextureBankPromises {
         due("eight textures: no ninth", texel(bank, 8, 0, 0, 0), MISSING);
     }
 
-    private static void clear() {
+    private static void promise4Clear() {
         TextureBank bank = new TextureBank();
         bank.clear();
         due("clear of none", bank.count(0), 0);
@@ -156,7 +156,7 @@ public final class TextureBankPromises {
         due("clear: wrap and soft are new", bank.about(0, 1) + bank.about(0, 2), 0);
     }
 
-    private static void levels() {
+    private static void promise5Level() {
         TextureBank bank = new TextureBank();
         putMany(bank, 64);
         bank.add(8, 0, 0);
@@ -178,7 +178,7 @@ public final class TextureBankPromises {
         due("level of one texel", level(bank, 1, 1L << 40, 1), 0);
     }
 
-    private static void levelRefuses() {
+    private static void promise5LevelRefuses() {
         TextureBank bank = new TextureBank();
         putMany(bank, 4);
         bank.add(2, 0, 0);
@@ -197,7 +197,7 @@ public final class TextureBankPromises {
         due("level: no texture most", level(bank, Integer.MAX_VALUE, 0, 1), MISSING);
     }
 
-    private static void levelOfTheGreatest() {
+    private static void promise5LevelOfTheGreatest() {
         TextureBank bank = new TextureBank();
         putMany(bank, 256);
         bank.add(16, 0, 0);
@@ -206,7 +206,7 @@ public final class TextureBankPromises {
         due("level of 16", level(bank, 0, 1L << 40, 1), 4);
     }
 
-    private static void nearest() {
+    private static void promise6LookUpNearest() {
         int[][] dueColumns = {
             // u, round, the last one, to and fro, of a side of 4
             {0, 0, 0, 0}, {16383, 0, 0, 0}, {16384, 1, 1, 1}, {65535, 3, 3, 3}, {65536, 0, 3, 3}, {81919, 0, 3, 3},
@@ -228,7 +228,7 @@ public final class TextureBankPromises {
         }
     }
 
-    private static void softly() {
+    private static void promise6LookUpSoftly() {
         TextureBank bank = new TextureBank();
         int[] colours = {0x000000, 0xFF0000, 0x00FF00, 0x0000FF};
         for (int wrap = 0; wrap < 3; wrap++) {
@@ -266,7 +266,7 @@ public final class TextureBankPromises {
         due("soft to and fro", lookUp(bank, 2, 0, 16384, -49152), 0x00FF00);
     }
 
-    private static void lookUpRefuses() {
+    private static void promise6LookUpRefuses() {
         TextureBank bank = new TextureBank();
         putMany(bank, 4);
         bank.add(2, 0, 1);
@@ -284,7 +284,7 @@ public final class TextureBankPromises {
         }
     }
 
-    private static void texels() {
+    private static void promise7Texel() {
         TextureBank bank = new TextureBank();
         putMany(bank, 16);
         bank.add(4, 0, 0);
@@ -311,7 +311,7 @@ public final class TextureBankPromises {
         due("texel: no texture 1", texel(bank, 1, 0, 0, 0), MISSING);
     }
 
-    private static void meansAreRoundedAtEachLevel() {
+    private static void promise7TexelMeansAreRoundedAtEachLevel() {
         TextureBank bank = new TextureBank();
         // Each quarter sums to 3, 4, 3, 4: means 0, 1, 0, 1, whose mean is 0.
         int[] reds = {1, 1, 1, 1, 1, 0, 1, 1, 1, 1, 1, 1, 1, 0, 1, 1};
@@ -324,7 +324,7 @@ public final class TextureBankPromises {
         due("mean of means", texel(bank, 0, 2, 0, 0), 0x00FFFE);
     }
 
-    private static void lit() {
+    private static void promise8Lit() {
         TextureBank bank = new TextureBank();
         due("lit as it is", lit(bank, 0xFFFFFF, 0xFFFFFF, 65536), 0xFFFFFF);
         due("lit as it is", lit(bank, 0x123456, 0xFFFFFF, 65536), 0x123456);
@@ -346,7 +346,7 @@ public final class TextureBankPromises {
         }
     }
 
-    private static void about() {
+    private static void promise9About() {
         TextureBank bank = new TextureBank();
         int number = 0;
         for (int side = 1; side <= 8; side *= 2) {
@@ -366,7 +366,7 @@ public final class TextureBankPromises {
         }
     }
 
-    private static void count() {
+    private static void promise10Count() {
         TextureBank bank = new TextureBank();
         putMany(bank, 4);
         due("count: textures", bank.count(0), 0);
@@ -379,7 +379,7 @@ public final class TextureBankPromises {
         }
     }
 
-    private static void banksAreApart() {
+    private static void promise1BanksAreApart() {
         TextureBank one = new TextureBank();
         TextureBank other = new TextureBank();
         one.put(1, 1, 1);
